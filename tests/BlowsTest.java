@@ -91,6 +91,9 @@ public final class BlowsTest {
         x.put(1, 3, -1);
         d.due("a cell below", x.blows(1, 2, 0, 2), -2);
         d.due("ahead of it", x.blows(1, 2, 0, 1), 0);
+        d.due("the very first cell", x.blows(1, 2, 3, 0), 0);
+        x.put(1, 0, 2);
+        d.due("the very first cell", x.blows(1, 2, 0, 1), -2);
         PillowRows over = Due.of("d;b11:b11");
         Due.writeBlows(over, 1, "1100002");
         d.due("a cell ahead of a row that can't be", over.blows(1, 2, 1, 3), -2);
@@ -130,6 +133,12 @@ public final class BlowsTest {
         d.due("30 rows", x.blows(1, 2, 0, 30), 0);
         d.due("30 rows from 1 on", x.blows(1, 2, 1, 30), -13);
         chance(d, x, 0, 12, 531441, 1L << 48);
+        PillowRows most = Due.of("d;b03;b03;b03;b03:b33");
+        Due.writeBlows(most, 1, "01".repeat(13));
+        d.due("11 of 12 blows", most.blows(1, 2, 0, 11), 30);
+        d.due("12 of 12 blows", most.blows(1, 2, 0, 12), 40);
+        d.due("13 of 12 blows", most.blows(1, 2, 0, 13), -112);
+        chance(d, most, 0, 12, 282429536481L, 1L << 48);
         PillowRows y = Due.of("d;b01:b01");
         y.sheet(1, 0, 2);
         y.put(1, 0, 257);
@@ -189,6 +198,8 @@ public final class BlowsTest {
         d.due("one against one each", x.send(1, 1), 1);
         d.due("one against one each", x.send(6, 2), 1);
         d.due("ORDER stays", x.many(2), 0);
+        d.due("all of them", Due.of("d;b11:b11").send(1, 1), 1);
+        d.due("all of them", Due.of("d;b01;b01;b01;b01:b31").send(6, 1), 15);
         for (int other = 0; other < 8; other++) {
             PillowRows y = Due.of("d;b12;t21;u03;b31:b33:t12:u01");
             y.order(0, 17);

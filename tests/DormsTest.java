@@ -108,6 +108,9 @@ public final class DormsTest {
         d.due("from 3 on", x.dorms(2, 2, 3, 9), 2);
         d.due("kind", x.ofBoy(1, 0, 0), 1);
         d.due("place counts from i on", x.dorms(2, 2, 3, 10), -109);
+        Due.write(x, 1, 1, "d;b01:t12:b11;u12");
+        d.due("what is behind it does not count", x.dorms(1, 1, 0, 9), 2);
+        d.due("one of SIDE 1", x.many(1), 1);
         x.put(2, 3, 100 + 256);
         d.due("an int is not cut to a code", x.dorms(2, 2, 3, 9), -100);
     }

@@ -7,6 +7,7 @@ public final class OddsTest {
         oneAgainstOne(d);
         bullyAgainstBoy(d);
         heavyBlowsAreNotPassedOn(d);
+        asLongAsCanBe(d);
         theOrderCounts(d);
         refusals(d);
         allSharesTogetherAreOne(d);
@@ -83,6 +84,19 @@ public final class OddsTest {
         mean(d, x, 1, 1, 5, 4);
         mean(d, x, 1, 2, 1, 2);
         mean(d, x, 0, 2, 1, 1);
+    }
+
+    /** Four who bear 3 each are out behind 12 blows of 12, each by 3 quarters; he is hit twice at the most. */
+    private static void asLongAsCanBe(Due d) {
+        PillowRows x = Due.of("d;b03;b03;b03;b03:b33");
+        long landed = 531441;
+        long hitTwiceAtMost = 59049L * (9 + 12 * 3 + 66);
+        odds(d, x, 12, 1, landed * hitTwiceAtMost, 1L << 48);
+        odds(d, x, 11, 1, 0, 1);
+        PillowRows y = Due.of("d;b33:b03:b03:b03:b03");
+        odds(d, y, 12, 0, landed * hitTwiceAtMost, 1L << 48);
+        mean(d, y, 1, 0, 4, 1);
+        mean(d, y, 1, 3, 229, 64);
     }
 
     private static void theOrderCounts(Due d) {
