@@ -1,0 +1,33 @@
+/** All that can be seen of an object by calls, but fault(), which these calls change themselves. */
+final class Look {
+    private Look() {
+    }
+
+    static String at(PillowRows x) {
+        StringBuilder seen = new StringBuilder("TRACE ").append(x.trace());
+        for (int side = 0; side < 2; side++) {
+            seen.append(" SIDE ").append(side).append(" ORDER ").append(x.many(2 + side)).append(':');
+            for (int k = 0; k < x.many(side); k++) {
+                seen.append(' ').append(x.ofBoy(side, k, 0)).append(x.ofBoy(side, k, 1)).append(x.ofBoy(side, k, 2));
+                seen.append(" stands ").append(x.stands(side, k));
+            }
+        }
+        for (int k = 0; k < 4; k++) {
+            rowOf(x, k, seen);
+        }
+        return seen.toString();
+    }
+
+    private static void rowOf(PillowRows x, int k, StringBuilder seen) {
+        seen.append(" SHEET ").append(k);
+        for (int lane = 0; lane < 3; lane++) {
+            long cell = x.cell(k, 0, lane);
+            // CAST tells that it is of another LANE, INDEX that it has a row of none
+            seen.append(" lane ").append(lane).append(" fault ").append(x.fault());
+            for (int i = 1; i <= 60 && cell != Long.MIN_VALUE; i++) {
+                seen.append(' ').append(cell);
+                cell = x.cell(k, i, lane);
+            }
+        }
+    }
+}
