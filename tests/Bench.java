@@ -23,6 +23,15 @@ final class Bench {
         this.made = made;
     }
 
+    /** A TEXT that was taken from SHEET 0 as ints, and calls behind it. */
+    static Bench fight(Due d, String text, String... more) {
+        String[] made = new String[2 + more.length];
+        made[0] = "text 0 2 " + text;
+        made[1] = "dorms 0 2 0 " + text.length();
+        System.arraycopy(more, 0, made, 2, more.length);
+        return new Bench(d, made);
+    }
+
     PillowRows fresh() {
         PillowRows x = new PillowRows();
         for (String line : made) {

@@ -25,16 +25,8 @@ public final class BlowsBoundsTest {
         d.end();
     }
 
-    private static Bench fight(Due d, String text, String... more) {
-        String[] made = new String[2 + more.length];
-        made[0] = "text 0 2 " + text;
-        made[1] = "dorms 0 2 0 " + text.length();
-        System.arraycopy(more, 0, made, 2, more.length);
-        return new Bench(d, made);
-    }
-
     private static void numbersOfBlows(Due d) {
-        Bench b = fight(d, "d;b33:b33", "sheet 1 2 60", "sheet 2 2 1", "sheet 3 2 0");
+        Bench b = Bench.fight(d, "d;b33:b33", "sheet 1 2 60", "sheet 2 2 1", "sheet 3 2 0");
         b.bounds("blows ? 2 0 0", 0, 3, UNKNOWN);
         b.bounds("blows 1 ? 0 0", 0, 2, OUTSIDE);
         b.bounds("blows 1 2 0 ?", 0, 30, OUTSIDE);
@@ -46,7 +38,7 @@ public final class BlowsBoundsTest {
         b.faults("blows 3 2 0 30", INDEX);
         b.faults("blows 1 0 0 0", CAST);
         b.faults("blows 1 1 0 30", CAST);
-        Bench nothing = fight(d, "d;b33:b33");
+        Bench nothing = Bench.fight(d, "d;b33:b33");
         for (int lane = 0; lane < 3; lane++) {
             nothing.faults("blows 1 " + lane + " 0 0", NULL);
             nothing.faults("chance 1 " + lane + " 0 0 0", NULL);
@@ -54,7 +46,7 @@ public final class BlowsBoundsTest {
     }
 
     private static void numbersOfChance(Due d) {
-        Bench b = fight(d, "d;b33:b33", "sheet 1 2 24", "sheet 2 2 1", "sheet 3 2 0");
+        Bench b = Bench.fight(d, "d;b33:b33", "sheet 1 2 24", "sheet 2 2 1", "sheet 3 2 0");
         b.bounds("chance ? 2 0 0 0", 0, 3, LOST);
         b.bounds("chance 1 2 0 ? 0", 0, 12, LOST);
         b.bounds("chance 1 2 0 12 ?", 0, 1, LOST);
@@ -74,25 +66,25 @@ public final class BlowsBoundsTest {
     private static void cellsOfBlows(Due d) {
         String[] bad = {"-1", "2", "min", "max", "256", "65536", "48", "49"};
         for (String v : bad) {
-            Bench first = fight(d, "d;b33:b33", "cells 1 2 " + v + " 0 1 1");
+            Bench first = Bench.fight(d, "d;b33:b33", "cells 1 2 " + v + " 0 1 1");
             first.refuses("blows 1 2 0 1", OUTSIDE);
             first.refuses("blows 1 2 0 2", OUTSIDE);
             first.refuses("chance 1 2 0 1 0", LOST);
-            Bench last = fight(d, "d;b33:b33", "cells 1 2 0 1 1 " + v);
+            Bench last = Bench.fight(d, "d;b33:b33", "cells 1 2 0 1 1 " + v);
             last.refuses("blows 1 2 0 2", OUTSIDE);
             last.refuses("chance 1 2 0 2 1", LOST);
         }
-        Bench bytes = fight(d, "d;b01:b01", "cells 1 0 256 -255 128 129");
+        Bench bytes = Bench.fight(d, "d;b01:b01", "cells 1 0 256 -255 128 129");
         bytes.gives("blows 1 0 0 1", 10);
         bytes.refuses("blows 1 0 2 1", OUTSIDE);
-        Bench shorts = fight(d, "d;b01:b01", "cells 1 1 65537 65536 256 257");
+        Bench shorts = Bench.fight(d, "d;b01:b01", "cells 1 1 65537 65536 256 257");
         shorts.gives("blows 1 1 0 1", 1);
         shorts.refuses("blows 1 1 2 1", OUTSIDE);
     }
 
     /** Ahead of i and behind the last row other numbers may stand. */
     private static void cellsThatAreNotTaken(Due d) {
-        Bench b = fight(d, "d;b01:b01", "cells 1 2 7 0 1 7 7");
+        Bench b = Bench.fight(d, "d;b01:b01", "cells 1 2 7 0 1 7 7");
         b.gives("blows 1 2 1 1", 10);
         b.givesShare("chance 1 2 1 1", 1, 4);
         b.gives("blows 1 2 0 0", 0);
@@ -103,7 +95,7 @@ public final class BlowsBoundsTest {
     }
 
     private static void noRows(Due d) {
-        Bench b = fight(d, "d;b12;b31:b23", "sheet 1 0 0", "cells 2 1 1 1");
+        Bench b = Bench.fight(d, "d;b12;b31:b23", "sheet 1 0 0", "cells 2 1 1 1");
         b.gives("blows 1 0 0 0", 0);
         b.givesShare("chance 1 0 0 0", 1, 1);
         b.gives("blows 2 1 2 0", 0);
@@ -118,7 +110,7 @@ public final class BlowsBoundsTest {
         int[] becomes = {10, 1, 11};
         for (int e = 0; e < ends.length; e++) {
             for (String next : new String[] {"0 0", "0 1", "1 0", "1 1"}) {
-                Bench b = fight(d, "d;b11:b11", "cells 1 2 0 0 " + ends[e] + " " + next + " 0 0");
+                Bench b = Bench.fight(d, "d;b11:b11", "cells 1 2 0 0 " + ends[e] + " " + next + " 0 0");
                 b.gives("blows 1 2 0 1", 0);
                 b.gives("blows 1 2 0 2", becomes[e]);
                 b.gives("blows 1 2 0 3", -102);
@@ -129,7 +121,7 @@ public final class BlowsBoundsTest {
                 b.givesShare("chance 1 2 0 4", 0, 1);
             }
         }
-        Bench more = fight(d, "d;b11;b11:b11:b11", "cells 1 2 1 1 0 0 1 0 0 0");
+        Bench more = Bench.fight(d, "d;b11;b11:b11:b11", "cells 1 2 1 1 0 0 1 0 0 0");
         more.gives("blows 1 2 0 1", 11);
         more.gives("blows 1 2 0 2", 11);
         more.gives("blows 1 2 0 3", 12);
@@ -138,7 +130,7 @@ public final class BlowsBoundsTest {
 
     /** REFUSALS come ahead of answers: the cell is told, not the row. */
     private static void aBadCellBehindTheEnd(Due d) {
-        Bench b = fight(d, "d;b11:b11", "cells 1 2 1 0 0 0 0 2");
+        Bench b = Bench.fight(d, "d;b11:b11", "cells 1 2 1 0 0 0 0 2");
         b.gives("blows 1 2 0 2", -101);
         b.refuses("blows 1 2 0 3", OUTSIDE);
         b.givesShare("chance 1 2 0 2", 0, 1);
@@ -164,15 +156,15 @@ public final class BlowsBoundsTest {
     }
 
     private static void numbersOfSplit(Due d) {
-        Bench b = fight(d, "d;b12;t21;u03:b33:t12");
+        Bench b = Bench.fight(d, "d;b12;t21;u03:b33:t12");
         b.bounds("split ? 0 0 0", 0, 6, LOST);
         b.bounds("split 6 ? 0 0", 0, 7, LOST);
         b.bounds("split 6 0 ? 0", 0, 3, LOST);
         b.bounds("split 6 7 3 ?", 0, 1, LOST);
-        Bench most = fight(d, "d;b12;t21;u03;b31:b33:t12:u01:b02");
+        Bench most = Bench.fight(d, "d;b12;t21;u03;b31:b33:t12:u01:b02");
         most.bounds("split 6 ? 0 1", 0, 15, LOST);
         most.bounds("split 6 0 ? 1", 0, 15, LOST);
-        Bench one = fight(d, "d;b11:b11");
+        Bench one = Bench.fight(d, "d;b11:b11");
         one.bounds("split 1 ? 0 1", 0, 1, LOST);
         one.bounds("split 1 0 ? 1", 0, 1, LOST);
         one.refuses("split 1 3 1 0", LOST);
@@ -200,14 +192,14 @@ public final class BlowsBoundsTest {
 
     /** Two against two, each blow by a half: who is alone on a way has WON it ahead of any ROUND. */
     private static void nobodyForAWay(Due d) {
-        Bench b = fight(d, "d;b11;b11:b11:b11");
+        Bench b = Bench.fight(d, "d;b11;b11:b11:b11");
         b.givesShare("split 1 1 0", 0, 1);
         b.givesShare("split 2 1 0", 1, 16);
         b.givesShare("split 2 2 3", 1, 16);
         b.givesShare("split 6 0 1", 0, 1);
         b.givesShare("split 6 3 1", 0, 1);
         b.givesShare("split 6 0 2", 0, 1);
-        Bench one = fight(d, "d;b11;b11:b11");
+        Bench one = Bench.fight(d, "d;b11;b11:b11");
         one.givesShare("split 1 2 0", 1, 4);
         one.givesShare("split 1 2 1", 1, 4);
         one.givesShare("split 1 0 0", 1, 2);
@@ -216,7 +208,7 @@ public final class BlowsBoundsTest {
     }
 
     private static void noRoundsAndSix(Due d) {
-        Bench b = fight(d, "d;b11;b11:b11:b11");
+        Bench b = Bench.fight(d, "d;b11;b11:b11:b11");
         for (int set = 0; set < 4; set++) {
             for (int other = 0; other < 4; other++) {
                 b.givesShare("split 0 " + set + " " + other, 0, 1);
@@ -224,45 +216,45 @@ public final class BlowsBoundsTest {
         }
         b.givesShare("split 6 1 1", 1365 * 1365, 1L << 24);
         b.givesShare("split 6 2 1", 1365 * 1365, 1L << 24);
-        Bench far = fight(d, "d;b31;b31:b01:b01");
+        Bench far = Bench.fight(d, "d;b31;b31:b01:b01");
         long oneWay = (16777216L - 729) / 13 * 9;
         far.givesShare("split 6 1 1", oneWay * oneWay, 1L << 48);
     }
 
     /** One against one on each way: as both are OUT, nobody has WON it. */
     private static void allAreOut(Due d) {
-        Bench b = fight(d, "d;b11;b11:b11:b11");
+        Bench b = Bench.fight(d, "d;b11;b11:b11:b11");
         b.givesShare("split 1 1 1", 1, 16);
         b.givesShare("split 2 1 2", 25, 256);
     }
 
     private static void numbersOfSend(Due d) {
-        Bench b = fight(d, "d;b12;t21;u03:b33:t12", "order 0 3", "order 1 1");
+        Bench b = Bench.fight(d, "d;b12;t21;u03:b33:t12", "order 0 3", "order 1 1");
         b.bounds("send ? 0", 0, 6, OUTSIDE);
         b.bounds("send 6 ?", 0, 3, OUTSIDE);
         b.bounds("send 0 ?", 0, 3, OUTSIDE);
         b.refuses("send 7 4", OUTSIDE);
-        Bench most = fight(d, "d;b12:b33:t12:u01:b02");
+        Bench most = Bench.fight(d, "d;b12:b33:t12:u01:b02");
         most.bounds("send 6 ?", 0, 15, OUTSIDE);
-        Bench one = fight(d, "d;b12;t21:b33");
+        Bench one = Bench.fight(d, "d;b12;t21:b33");
         one.bounds("send 6 ?", 0, 1, OUTSIDE);
     }
 
     private static void sendOfSeveralTheLeast(Due d) {
-        Bench b = fight(d, "d;b11;b11;b11;b11:b11:b11", "order 0 23");
+        Bench b = Bench.fight(d, "d;b11;b11;b11;b11:b11:b11", "order 0 23");
         for (int other = 0; other < 4; other++) {
             b.gives("send 0 " + other, 0);
         }
         b.gives("send 1 1", 3);
         b.gives("send 1 2", 3);
-        Bench one = fight(d, "d;b11:b11");
+        Bench one = Bench.fight(d, "d;b11:b11");
         one.gives("send 0 1", 0);
         one.gives("send 6 0", 0);
         one.gives("send 6 1", 1);
-        Bench two = fight(d, "d;b11;b11:b11");
+        Bench two = Bench.fight(d, "d;b11;b11:b11");
         two.gives("send 1 0", 0);
         two.gives("send 1 1", 3);
-        Bench full = fight(d, "d;b01;b01;b01;b01:b31");
+        Bench full = Bench.fight(d, "d;b01;b01;b01;b01:b31");
         full.gives("send 6 1", 15);
         full.gives("send 6 0", 0);
     }

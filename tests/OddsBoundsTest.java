@@ -17,10 +17,6 @@ public final class OddsBoundsTest {
         d.end();
     }
 
-    private static Bench fight(Due d, String text) {
-        return new Bench(d, "text 0 0 " + text, "dorms 0 0 0 " + text.length());
-    }
-
     private static void numbers(Bench b) {
         b.bounds("odds ? 3 0", 0, 12, LOST);
         b.bounds("odds 12 ? 0", 0, 3, LOST);
@@ -41,7 +37,7 @@ public final class OddsBoundsTest {
         String[] texts = {"d;b11:b11", "d;b11;u31:t01", "d;b11:t01:b21:b33:u02", "d;b11;u31;t21;b01:b11:u31:t21:b01"};
         int[][] counts = {{1, 1}, {2, 1}, {1, 4}, {4, 4}};
         for (int t = 0; t < texts.length; t++) {
-            Bench b = fight(d, texts[t]);
+            Bench b = Bench.fight(d, texts[t]);
             int of0 = counts[t][0];
             int of1 = counts[t][1];
             for (int what = 0; what < 3; what++) {
@@ -60,7 +56,7 @@ public final class OddsBoundsTest {
     }
 
     private static void oneRound(Due d) {
-        Bench b = fight(d, "d;b01:b31");
+        Bench b = Bench.fight(d, "d;b01:b31");
         b.givesShare("odds 1 0", 1, 16);
         b.givesShare("odds 1 1", 9, 16);
         b.givesShare("odds 1 2", 3, 16);
@@ -70,16 +66,16 @@ public final class OddsBoundsTest {
 
     /** Twelve blows of twelve, and just 11 of 12; the other one bears no more than two of his twelve. */
     private static void twelveRounds(Due d) {
-        Bench b = fight(d, "d;b33:b03:b03:b03:b03");
+        Bench b = Bench.fight(d, "d;b33:b03:b03:b03:b03");
         long all = 531441;
         b.givesShare("odds 11 0", 0, 1);
         b.givesShare("odds 12 0", all * 59049L * (9 + 36 + 66), 1L << 48);
         b.givesShare("seen 12 0 4", all * 59049L * (9 + 36 + 66), 1L << 48);
-        Bench even = fight(d, "d;b11:b11");
+        Bench even = Bench.fight(d, "d;b11:b11");
         even.givesShare("odds 12 3", 1, 1L << 24);
         even.givesShare("odds 11 3", 1, 1L << 22);
         even.givesShare("mean 0 12", 2796203, 8388608);
-        Bench near = fight(d, "d;b01:b31");
+        Bench near = Bench.fight(d, "d;b01:b31");
         near.givesShare("odds 12 3", all, 1L << 48);
     }
 
@@ -112,7 +108,7 @@ public final class OddsBoundsTest {
 
     /** Two against two, each blow by a half, each bears one. */
     private static void nobodyIsLeft(Due d) {
-        Bench b = fight(d, "d;b11;b11:b11:b11");
+        Bench b = Bench.fight(d, "d;b11;b11:b11:b11");
         b.givesShare("odds 1 2", 0, 1);
         b.givesShare("odds 2 2", 1, 16);
         b.givesShare("seen 2 2 2", 1, 16);
@@ -127,7 +123,7 @@ public final class OddsBoundsTest {
     }
 
     private static void moreOutThanThereAre(Due d) {
-        Bench b = fight(d, "d;b11;b11:b11");
+        Bench b = Bench.fight(d, "d;b11;b11:b11");
         for (int n : new int[] {0, 1, 12}) {
             b.givesShare("seen " + n + " 3 0", 0, 1);
             b.givesShare("seen " + n + " 4 1", 0, 1);
@@ -139,29 +135,29 @@ public final class OddsBoundsTest {
 
     /** A BULLY's blow of 2 against BEARS 1, 2, 3; a blow of 1 against each of them. */
     private static void bearsTogetherOrMore(Due d) {
-        fight(d, "d;u33:b01").givesShare("seen 1 0 1", 3, 4);
-        fight(d, "d;u33:b02").givesShare("seen 1 0 1", 3, 4);
-        fight(d, "d;u33:b03").givesShare("seen 1 0 1", 0, 1);
-        fight(d, "d;u33:b03").givesShare("seen 2 0 1", 9, 16);
-        fight(d, "d;b33:b01").givesShare("seen 1 0 1", 3, 4);
-        fight(d, "d;b33:b02").givesShare("seen 1 0 1", 0, 1);
-        fight(d, "d;b33:b02").givesShare("seen 2 0 1", 9, 16);
-        fight(d, "d;b33:b03").givesShare("seen 2 0 1", 0, 1);
-        fight(d, "d;b33:b03").givesShare("odds 3 0", 1701, 4096);
+        Bench.fight(d, "d;u33:b01").givesShare("seen 1 0 1", 3, 4);
+        Bench.fight(d, "d;u33:b02").givesShare("seen 1 0 1", 3, 4);
+        Bench.fight(d, "d;u33:b03").givesShare("seen 1 0 1", 0, 1);
+        Bench.fight(d, "d;u33:b03").givesShare("seen 2 0 1", 9, 16);
+        Bench.fight(d, "d;b33:b01").givesShare("seen 1 0 1", 3, 4);
+        Bench.fight(d, "d;b33:b02").givesShare("seen 1 0 1", 0, 1);
+        Bench.fight(d, "d;b33:b02").givesShare("seen 2 0 1", 9, 16);
+        Bench.fight(d, "d;b33:b03").givesShare("seen 2 0 1", 0, 1);
+        Bench.fight(d, "d;b33:b03").givesShare("odds 3 0", 1701, 4096);
     }
 
     /** Who is OUT behind a ROUND has struck in it: both may be. */
     private static void bothAtOnce(Due d) {
-        Bench b = fight(d, "d;b11:b11");
+        Bench b = Bench.fight(d, "d;b11:b11");
         b.givesShare("seen 1 1 1", 1, 4);
         b.givesShare("odds 1 2", 1, 4);
-        Bench bullies = fight(d, "d;u11:u12");
+        Bench bullies = Bench.fight(d, "d;u11:u12");
         bullies.givesShare("seen 1 1 1", 1, 4);
     }
 
     /** Behind one ROUND but one of a SIDE can be OUT, however heavy the blow. */
     private static void theNextOneStrikesOnlyLater(Due d) {
-        Bench b = fight(d, "d;u33:b01:b01:b01:b01");
+        Bench b = Bench.fight(d, "d;u33:b01:b01:b01:b01");
         for (int n = 1; n <= 3; n++) {
             b.givesShare("seen " + n + " 0 " + (n + 1), 0, 1);
         }

@@ -19,14 +19,6 @@ public final class OrdersBoundsTest {
         d.end();
     }
 
-    private static Bench fight(Due d, String text, String... more) {
-        String[] made = new String[2 + more.length];
-        made[0] = "text 0 0 " + text;
-        made[1] = "dorms 0 0 0 " + text.length();
-        System.arraycopy(more, 0, made, 2, more.length);
-        return new Bench(d, made);
-    }
-
     private static void numbers(Bench b) {
         b.bounds("best ? 0", 0, 1, UNKNOWN);
         b.bounds("best 0 ?", 0, 12, OUTSIDE);
@@ -47,25 +39,25 @@ public final class OrdersBoundsTest {
 
     /** Behind one ROUND he alone counts who stands first: of 2, 3, 4, 5 (or 0, 1) alike the least. */
     private static void ofSeveralTheLeast(Due d) {
-        Bench of0 = fight(d, "d;b01;b31;b31:b11", "order 0 5");
+        Bench of0 = Bench.fight(d, "d;b01;b31;b31:b11", "order 0 5");
         of0.gives("best 0 1", 2);
         of0.gives("safe 0 1", 2);
         of0.gives("likely 0 1 0 1", 2);
         of0.gives("likely 0 1 1 0", 0);
-        Bench of1 = fight(d, "d;b11:b01:b31:b31", "order 1 4");
+        Bench of1 = Bench.fight(d, "d;b11:b01:b31:b31", "order 1 4");
         of1.gives("best 1 1", 2);
         of1.gives("safe 1 1", 2);
         of1.gives("likely 1 1 1 0", 2);
         of1.gives("likely 1 1 0 1", 0);
-        Bench last = fight(d, "d;b01;b01;b31:b11", "order 0 1");
+        Bench last = Bench.fight(d, "d;b01;b01;b31:b11", "order 0 1");
         last.gives("best 0 1", 4);
         last.gives("safe 0 1", 4);
         last.gives("likely 0 1 0 1", 4);
     }
 
     private static void allAlike(Due d) {
-        Bench alike = fight(d, "d;t12;t12;t12;t12:b21:b21:b21", "order 0 23", "order 1 5");
-        Bench none = fight(d, "d;b12;t21;u03:b33:t12", "order 0 4", "order 1 1");
+        Bench alike = Bench.fight(d, "d;t12;t12;t12;t12:b21:b21:b21", "order 0 23", "order 1 5");
+        Bench none = Bench.fight(d, "d;b12;t21;u03:b33:t12", "order 0 4", "order 1 1");
         for (int side = 0; side < 2; side++) {
             for (int n : new int[] {0, 1, 12}) {
                 alike.gives("best " + side + " " + n, 0);
@@ -81,7 +73,7 @@ public final class OrdersBoundsTest {
 
     /** More OUT than there are, or than ROUNDS: by none of the ORDERS more likely than by the first. */
     private static void neverSeen(Due d) {
-        Bench b = fight(d, "d;b12;t21;u03:b33:t12", "order 0 4", "order 1 1");
+        Bench b = Bench.fight(d, "d;b12;t21;u03:b33:t12", "order 0 4", "order 1 1");
         b.gives("likely 0 12 4 4", 0);
         b.gives("likely 0 12 4 0", 0);
         b.gives("likely 1 12 0 3", 0);
@@ -93,11 +85,11 @@ public final class OrdersBoundsTest {
         String turned = "d;u02;b11;t22:b01:b33:u22:u03";
         isMostByAll(d, text, 0);
         isMostByAll(d, turned, 1);
-        fight(d, text).gives("best 0 12", 23);
-        fight(d, text).gives("safe 0 12", 23);
-        fight(d, turned).gives("best 1 12", 23);
-        fight(d, turned).gives("safe 1 12", 23);
-        fight(d, "d;b02;u33;u01;b21:t23").gives("likely 0 8 2 1", 23);
+        Bench.fight(d, text).gives("best 0 12", 23);
+        Bench.fight(d, text).gives("safe 0 12", 23);
+        Bench.fight(d, turned).gives("best 1 12", 23);
+        Bench.fight(d, turned).gives("safe 1 12", 23);
+        Bench.fight(d, "d;b02;u33;u01;b21:t23").gives("likely 0 8 2 1", 23);
     }
 
     private static long won(PillowRows x, int side, int n) {
@@ -138,12 +130,12 @@ public final class OrdersBoundsTest {
 
     /** Against one ORDER alone SAFE is BEST; against 24 of them it is another one here. */
     private static void safeByTheLeast(Due d) {
-        Bench b = fight(d, "d;b01;b31:b11");
+        Bench b = Bench.fight(d, "d;b01;b31:b11");
         b.gives("safe 0 1", 1);
-        Bench turned = fight(d, "d;b11:b01:b31");
+        Bench turned = Bench.fight(d, "d;b11:b01:b31");
         turned.gives("safe 1 1", 1);
         String text = "d;t33;u11;u12;t22:t03:u11:u33:t21";
-        Bench apart = fight(d, text);
+        Bench apart = Bench.fight(d, text);
         apart.gives("best 0 7", 14);
         apart.gives("safe 0 7", 17);
         d.holds("the least by ORDER 17 is more than by ORDER 14", leastWon(text, 17) > leastWon(text, 14));
@@ -164,8 +156,8 @@ public final class OrdersBoundsTest {
     }
 
     private static void theOnlyOne(Due d) {
-        Bench only0 = fight(d, "d;b11:u33:b01", "order 1 1");
-        Bench only1 = fight(d, "d;u33;b01:b11", "order 0 1");
+        Bench only0 = Bench.fight(d, "d;b11:u33:b01", "order 1 1");
+        Bench only1 = Bench.fight(d, "d;u33;b01:b11", "order 0 1");
         for (int n : new int[] {0, 1, 12}) {
             only0.gives("best 0 " + n, 0);
             only0.gives("safe 0 " + n, 0);
@@ -184,25 +176,25 @@ public final class OrdersBoundsTest {
     /** The one who is left fights alone: SIDE 0's far one by 3 quarters against 1, its near one turned round. */
     private static void oneOfTwo(Due d) {
         for (int order = 0; order < 2; order++) {
-            Bench b = fight(d, "d;b01;b31:b21", "order 0 " + order);
+            Bench b = Bench.fight(d, "d;b01;b31:b21", "order 0 " + order);
             b.givesShare("without 0 0 0", 0, 1);
             b.givesShare("without 0 0 1", 9, 16);
             b.givesShare("without 0 1 1", 1, 16);
             b.refuses("without 0 2 1 0", LOST);
             b.refuses("without 1 0 1 0", LOST);
         }
-        Bench of1 = fight(d, "d;b21:b01:b31", "order 1 1");
+        Bench of1 = Bench.fight(d, "d;b21:b01:b31", "order 1 1");
         of1.givesShare("without 1 0 1", 9, 16);
         of1.givesShare("without 1 1 1", 1, 16);
-        of1.givesShare("without 1 1 12", (16L * 16 * 16 * 16 * 16 * 16 * 16 * 16 * 16 * 16 * 16 * 16 - 531441) / 13, WHOLE);
+        of1.givesShare("without 1 1 12", (WHOLE - 531441) / 13, WHOLE);
     }
 
     /** Without the first in ORDER the second strikes first. */
     private static void theOthersInTheirOrder(Due d) {
-        Bench up = fight(d, "d;b11;b01;b31:b21");
+        Bench up = Bench.fight(d, "d;b11;b01;b31:b21");
         up.givesShare("without 0 0 1", 1, 4);
         up.givesShare("without 0 2 1", 1, 4);
-        Bench turned = fight(d, "d;b11;b01;b31:b21", "order 0 5");
+        Bench turned = Bench.fight(d, "d;b11;b01;b31:b21", "order 0 5");
         turned.givesShare("without 0 0 1", 3, 4);
         turned.givesShare("without 0 2 1", 1, 4);
         turned.givesShare("without 0 1 1", 3, 4);

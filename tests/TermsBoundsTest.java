@@ -152,6 +152,9 @@ public final class TermsBoundsTest {
         with.faults("copy 3 -1 0 -1 -1", NULL);
         with.faults("copy 0 -1 3 -1 -1", NULL);
         with.faults("copy 3 0 3 0 0", NULL);
+        with.faults("copy 3 0 1 0 0", NULL);
+        with.faults("copy 1 0 3 0 0", NULL);
+        with.faults("copy 2 0 3 9 9", NULL);
         with.faults("copy 0 -1 1 -1 -1", CAST);
         with.faults("copy 1 0 2 0 0", CAST);
         with.faults("copy 0 0 0 0 -1", INDEX);
