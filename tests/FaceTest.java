@@ -48,6 +48,18 @@ public final class FaceTest {
             }
         }
         d.holds("at most twelve classes", PillowRows.class.getDeclaredClasses().length < 12);
+        fewFields(d, PillowRows.class);
+        for (Class<?> inside : PillowRows.class.getDeclaredClasses()) {
+            fewFields(d, inside);
+        }
+    }
+
+    private static void fewFields(Due d, Class<?> of) {
+        int own = 0;
+        for (Field f : of.getDeclaredFields()) {
+            own += Modifier.isStatic(f.getModifiers()) ? 0 : 1;
+        }
+        d.holds("at most twenty fields: " + of, own <= 20);
     }
 
     private static void fields(Due d) {
